@@ -1,0 +1,69 @@
+/** What the tests share: each check that fails is printed, and the test then ends with exit code 1. */
+final class Checks {
+    interface Call {
+        void make();
+    }
+
+    private static int wrong = 0;
+
+    private Checks() {
+    }
+
+    static void same(String what, long got, long due) {
+        if (got != due) {
+            fail(what + " answered " + got + ", due is " + due);
+        }
+    }
+
+    static void same(String what, boolean got, boolean due) {
+        if (got != due) {
+            fail(what + " answered " + got + ", due is " + due);
+        }
+    }
+
+    static void same(String what, String got, String due) {
+        if (!got.equals(due)) {
+            fail(what + " answered [" + got + "], due is [" + due + "]");
+        }
+    }
+
+    /** There is no such cell, name, user, image, place or run; nothing changes. */
+    static void outOfBounds(String what, CellNotebook notebook, Call call) {
+        refused(what, notebook, call, IndexOutOfBoundsException.class);
+    }
+
+    static void illegalArgument(String what, CellNotebook notebook, Call call) {
+        refused(what, notebook, call, IllegalArgumentException.class);
+    }
+
+    static void illegalState(String what, CellNotebook notebook, Call call) {
+        refused(what, notebook, call, IllegalStateException.class);
+    }
+
+    static void fail(String what) {
+        wrong++;
+        System.out.println(what);
+    }
+
+    static void end() {
+        System.out.println(wrong == 0 ? "all checks hold" : wrong + " checks fail");
+        if (wrong != 0) {
+            System.exit(1);
+        }
+    }
+
+    // Asking for all answers may go beyond the 512th call, which the document leaves free and the class allows.
+    private static void refused(String what, CellNotebook notebook, Call call, Class<?> due) {
+        String before = Notebooks.allAnswers(notebook);
+        Class<?> thrown = null;
+        try {
+            call.make();
+        } catch (RuntimeException e) {
+            thrown = e.getClass();
+        }
+        if (thrown != due) {
+            fail(what + " threw " + thrown + ", due is " + due);
+        }
+        same(what + ", then all answers", Notebooks.allAnswers(notebook), before);
+    }
+}

@@ -1,0 +1,82 @@
+import java.lang.reflect.Constructor;
+import java.lang.reflect.Field;
+import java.lang.reflect.Method;
+import java.lang.reflect.Modifier;
+import java.util.Set;
+import java.util.TreeSet;
+
+/** The public face: its constants, constructor and methods, and no other member that is not private. */
+final class FaceTest {
+    private static final String[] METHODS = {
+        "int addCell()", "int write(int int int int int int)", "int clear(int int)", "int move(int int)",
+        "int cellCount()", "int cellAt(int)", "int source(int)", "char sourceChar(int int)",
+        "int grant(int int int)", "int right(int int)", "boolean run(int int)", "int refresh(int)",
+        "boolean isSet(int)", "int value(int)", "int stamp(int)", "int lastRun(int)", "boolean hasResult(int)",
+        "int result(int int)", "int seen(int)", "int timesSeen(int)", "int why(int)", "int stale()",
+        "int wouldBeStale(int)", "int keep()", "int restore(int)", "int end()", "boolean isSetInOrder(int)",
+        "int valueInOrder(int)", "int unlikeInOrder()", "int runs()", "int logged()", "int logAt(int)",
+        "int forget(int)"
+    };
+    private static final String[] CONSTANTS = {
+        "PLUS 0", "MINUS 1", "TIMES 2", "OVER 3", "NOTHING 0", "SEE 1", "RUN 2", "EDIT 3",
+        "EDITED 1", "CHANGED 2", "RESTING 4"
+    };
+
+    private FaceTest() {
+    }
+
+    public static void main(String[] args) throws IllegalAccessException {
+        Checks.same("the class is public and final",
+                CellNotebook.class.getModifiers() & (Modifier.PUBLIC | Modifier.FINAL),
+                Modifier.PUBLIC | Modifier.FINAL);
+        methodsAreThoseOfTheDocument();
+        constantsAreThoseOfTheDocument();
+        oneConstructorWithoutParameters();
+        Checks.end();
+    }
+
+    private static void methodsAreThoseOfTheDocument() {
+        Set<String> face = new TreeSet<>();
+        Set<String> hidden = new TreeSet<>();
+        Set<String> names = new TreeSet<>();
+        for (Method method : CellNotebook.class.getDeclaredMethods()) {
+            if (Modifier.isPrivate(method.getModifiers())) {
+                hidden.add(method.getName());
+            } else if (!method.isSynthetic()) {
+                face.add(described(method));
+                names.add(method.getName());
+            }
+        }
+        Checks.same("methods", face.toString(), new TreeSet<>(Set.of(METHODS)).toString());
+        hidden.retainAll(names);
+        Checks.same("private methods with a public one's name", hidden.size(), 0);
+    }
+
+    private static String described(Method method) {
+        StringBuilder text = new StringBuilder();
+        text.append(method.getReturnType().getName()).append(' ').append(method.getName()).append('(');
+        for (Class<?> parameter : method.getParameterTypes()) {
+            text.append(text.charAt(text.length() - 1) == '(' ? "" : " ").append(parameter.getName());
+        }
+        return text.append(')').toString();
+    }
+
+    private static void constantsAreThoseOfTheDocument() throws IllegalAccessException {
+        Set<String> face = new TreeSet<>();
+        for (Field field : CellNotebook.class.getDeclaredFields()) {
+            if (!Modifier.isPrivate(field.getModifiers())) {
+                Checks.same("modifiers of " + field.getName(), field.getModifiers(),
+                        Modifier.PUBLIC | Modifier.STATIC | Modifier.FINAL);
+                face.add(field.getName() + " " + field.getInt(null));
+            }
+        }
+        Checks.same("constants", face.toString(), new TreeSet<>(Set.of(CONSTANTS)).toString());
+    }
+
+    private static void oneConstructorWithoutParameters() {
+        Constructor<?>[] all = CellNotebook.class.getDeclaredConstructors();
+        Checks.same("constructors", all.length, 1);
+        Checks.same("its parameters", all[0].getParameterCount(), 0);
+        Checks.same("it is public", Modifier.isPublic(all[0].getModifiers()), true);
+    }
+}
