@@ -52,18 +52,24 @@ final class Checks {
         }
     }
 
+    /** The exception's name; with its place, if it was not the class's own code that threw it. */
+    static String thrownBy(Throwable thrown) {
+        StackTraceElement[] places = thrown.getStackTrace();
+        String name = thrown.getClass().getName();
+        boolean own = places.length > 0 && places[0].getClassName().endsWith("Notebook");
+        return own ? name : name + " in " + (places.length > 0 ? places[0] : "the machine");
+    }
+
     // Asking for all answers may go beyond the 512th call, which the document leaves free and the class allows.
     private static void refused(String what, CellNotebook notebook, Call call, Class<?> due) {
         String before = Notebooks.allAnswers(notebook);
-        Class<?> thrown = null;
+        String thrown = "nothing";
         try {
             call.make();
         } catch (RuntimeException e) {
-            thrown = e.getClass();
+            thrown = thrownBy(e);
         }
-        if (thrown != due) {
-            fail(what + " threw " + thrown + ", due is " + due);
-        }
+        same(what + ", what is thrown,", thrown, due.getName());
         same(what + ", then all answers", Notebooks.allAnswers(notebook), before);
     }
 }

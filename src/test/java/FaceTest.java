@@ -32,6 +32,7 @@ final class FaceTest {
         methodsAreThoseOfTheDocument();
         constantsAreThoseOfTheDocument();
         oneConstructorWithoutParameters();
+        classesInsideAreStaticAndNotOpen();
         Checks.end();
     }
 
@@ -78,5 +79,15 @@ final class FaceTest {
         Checks.same("constructors", all.length, 1);
         Checks.same("its parameters", all[0].getParameterCount(), 0);
         Checks.same("it is public", Modifier.isPublic(all[0].getModifiers()), true);
+    }
+
+    private static void classesInsideAreStaticAndNotOpen() {
+        Class<?>[] inside = CellNotebook.class.getDeclaredClasses();
+        Checks.same("some twelve classes at most", inside.length <= 12, true);
+        for (Class<?> one : inside) {
+            int open = one.getModifiers() & (Modifier.PUBLIC | Modifier.PROTECTED);
+            Checks.same(one.getName() + " is open", open != 0, false);
+            Checks.same(one.getName() + " is static", Modifier.isStatic(one.getModifiers()), true);
+        }
     }
 }

@@ -77,7 +77,7 @@ final class RandomRunsTest {
         try {
             return String.valueOf(method.invoke(target, arguments));
         } catch (InvocationTargetException e) {
-            return e.getCause().getClass().getName();
+            return Checks.thrownBy(e.getCause());
         }
     }
 

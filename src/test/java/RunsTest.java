@@ -123,6 +123,11 @@ final class RunsTest {
         Checks.same("its result", notebook.hasResult(0), false);
         Checks.same("what it has seen", notebook.seen(0), 0);
         Checks.illegalState("result of an empty program", notebook, () -> notebook.result(0, 0));
+        Notebooks.program(notebook, 0, "a=1+1");
+        notebook.run(0, 0);
+        notebook.clear(0, 0);
+        Checks.same("run of a program that was cleared", notebook.run(0, 0), true);
+        Checks.same("its result", notebook.hasResult(0), false);
     }
 
     private static void namesAreSeenUnlessSetAhead() {
@@ -213,12 +218,12 @@ final class RunsTest {
 
     private static void refreshRunsInTheOrder() {
         CellNotebook notebook = Notebooks.withCells(3);
-        Notebooks.program(notebook, 0, "a=b+1");
-        Notebooks.program(notebook, 1, "b=2+2");
+        Notebooks.program(notebook, 0, "b=a+1");
+        Notebooks.program(notebook, 1, "a=2+2");
         notebook.move(1, 0);
         Checks.same("refresh", notebook.refresh(0), 3);
         Checks.same("log", Notebooks.log(notebook), "1010 2000 3020 ");
-        Checks.same("a", notebook.value(Notebooks.A), 5);
+        Checks.same("b", notebook.value(Notebooks.B), 5);
         Checks.same("refresh again", notebook.refresh(0), 0);
         Checks.same("runs", notebook.runs(), 3);
     }

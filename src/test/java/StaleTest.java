@@ -172,6 +172,9 @@ final class StaleTest {
         Checks.same("would be stale, d", notebook.wouldBeStale(Notebooks.D), 0);
         Checks.same("nothing is set", notebook.stamp(Notebooks.D), 4);
         Checks.same("nothing is stale", notebook.stale(), 0);
+        for (int cell = 0; cell < 4; cell++) {
+            Checks.same("why of what would be stale", notebook.why(cell), 0);
+        }
         Notebooks.program(notebook, 3, "e=f+1");
         notebook.run(0, 3);
         Checks.same("would be stale, an unset name that was seen", notebook.wouldBeStale(Notebooks.F), 8);
