@@ -540,7 +540,7 @@ public final class CellNotebook {
         private final int[] stamps = new int[NAMES];
 
         boolean hold(int name) {
-            return stampOf(name) != NO_RUN;
+            return isName(name) && stamps[name] != NO_RUN;
         }
 
         int valueOf(int name) {

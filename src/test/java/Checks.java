@@ -5,8 +5,14 @@ final class Checks {
     }
 
     private static int wrong = 0;
+    private static String sentence = "";
 
     private Checks() {
+    }
+
+    /** The checks that follow hold these words of the document: those that fail are printed with them. */
+    static void sentence(String where, String... words) {
+        sentence = where + ", \"" + String.join("\", \"", words) + "\": ";
     }
 
     static void same(String what, long got, long due) {
@@ -42,7 +48,7 @@ final class Checks {
 
     static void fail(String what) {
         wrong++;
-        System.out.println(what);
+        System.out.println(sentence + what);
     }
 
     static void end() {

@@ -33,6 +33,12 @@ final class Notebooks {
         }
     }
 
+    /** The statements in the place of the program that is there. */
+    static void programAnew(CellNotebook notebook, int cell, String statements) {
+        notebook.clear(HOST, cell);
+        program(notebook, cell, statements);
+    }
+
     static String text(CellNotebook notebook, int cell) {
         StringBuilder text = new StringBuilder();
         int length = notebook.source(cell);
