@@ -10,34 +10,36 @@ final class CellsEdgesTest {
     }
 
     public static void main(String[] args) {
-        beginsWithoutCells();
-        beginsWithoutRuns();
-        beginsWithAllNamesUnset();
-        addCellIsLastInTheOrder();
-        addCellReturnsItsNumber();
-        addCellThrowsIfThereAreSixteen();
-        writeIsAtTheEnd();
-        writeTakesItsArguments();
-        writeReturnsHowManyStatements();
-        writeThrowsWithoutUserCellOrName();
-        writeThrowsOutOfRange();
-        writeThrowsWithoutEdit();
-        writeThrowsIfItHasSix();
-        clearClears();
-        clearReturnsHowMany();
-        clearOfNothingIsNoChange();
-        clearThrowsWithoutUserOrCell();
-        clearThrowsWithoutEdit();
-        moveKeepsTheOthers();
-        moveTakesPlacesFromZero();
-        moveThrows();
-        cellCountCounts();
-        cellAtTakesPlacesFromZero();
-        cellAtThrows();
-        sourceIsTheLength();
-        sourceThrows();
-        sourceCharIsAChar();
-        sourceCharThrows();
+        Checks.run(
+                CellsEdgesTest::beginsWithoutCells,
+                CellsEdgesTest::beginsWithoutRuns,
+                CellsEdgesTest::beginsWithAllNamesUnset,
+                CellsEdgesTest::addCellIsLastInTheOrder,
+                CellsEdgesTest::addCellReturnsItsNumber,
+                CellsEdgesTest::addCellThrowsIfThereAreSixteen,
+                CellsEdgesTest::writeIsAtTheEnd,
+                CellsEdgesTest::writeTakesItsArguments,
+                CellsEdgesTest::writeReturnsHowManyStatements,
+                CellsEdgesTest::writeThrowsWithoutUserCellOrName,
+                CellsEdgesTest::writeThrowsOutOfRange,
+                CellsEdgesTest::writeThrowsWithoutEdit,
+                CellsEdgesTest::writeThrowsIfItHasSix,
+                CellsEdgesTest::clearClears,
+                CellsEdgesTest::clearReturnsHowMany,
+                CellsEdgesTest::clearOfNothingIsNoChange,
+                CellsEdgesTest::clearThrowsWithoutUserOrCell,
+                CellsEdgesTest::clearThrowsWithoutEdit,
+                CellsEdgesTest::moveKeepsTheOthers,
+                CellsEdgesTest::moveReturnsThePlaceBefore,
+                CellsEdgesTest::moveTakesPlacesFromZero,
+                CellsEdgesTest::moveThrows,
+                CellsEdgesTest::cellCountCounts,
+                CellsEdgesTest::cellAtTakesPlacesFromZero,
+                CellsEdgesTest::cellAtThrows,
+                CellsEdgesTest::sourceIsTheLength,
+                CellsEdgesTest::sourceThrows,
+                CellsEdgesTest::sourceCharIsAChar,
+                CellsEdgesTest::sourceCharThrows);
         Checks.end();
     }
 
@@ -219,7 +221,7 @@ final class CellsEdgesTest {
     }
 
     private static void clearReturnsHowMany() {
-        Checks.sentence("Promise 4", "Returns how many statements it had");
+        Checks.sentence("Promise 4", "Returns how many statements it had", "user: 0 to 4");
         for (int user = 0; user < Notebooks.USERS; user++) {
             CellNotebook notebook = Notebooks.withCells(1);
             if (user > 0) {
@@ -293,6 +295,17 @@ final class CellsEdgesTest {
             due.add(place, cell);
             Checks.same("order", Notebooks.order(notebook), due.toString().replaceAll("[\\[,]", "").replace("]", " "));
         }
+    }
+
+    private static void moveReturnsThePlaceBefore() {
+        Checks.sentence("Promise 5", "Returns its place before");
+        CellNotebook notebook = Notebooks.withCells(16);
+        Checks.same("the first place", notebook.move(0, 0), 0);
+        Checks.same("the last place", notebook.move(15, 15), 15);
+        Checks.same("the last place", notebook.move(15, 0), 15);
+        Checks.same("one place further on", notebook.move(0, 15), 1);
+        Checks.same("its number again", notebook.move(9, 2), 9);
+        Checks.same("where it was moved to", notebook.move(9, 0), 2);
     }
 
     private static void moveTakesPlacesFromZero() {

@@ -4,21 +4,22 @@ final class CellsTest {
     }
 
     public static void main(String[] args) {
-        aNewObjectIsEmpty();
-        cellsAreNumberedAndLastInTheOrder();
-        thereAreSixteenCellsAtMost();
-        writeAddsStatements();
-        writeTakesAllOperands();
-        writeRefusesWhatIsOutOfRange();
-        writeThrowsInOrder();
-        writeNeedsEdit();
-        clearEmptiesAProgram();
-        clearRefuses();
-        clearOfNothingIsNoChange();
-        moveKeepsTheOthers();
-        moveAndCellAtRefuse();
-        programsAreWrittenOut();
-        sourceRefuses();
+        Checks.run(
+                CellsTest::aNewObjectIsEmpty,
+                CellsTest::cellsAreNumberedAndLastInTheOrder,
+                CellsTest::thereAreSixteenCellsAtMost,
+                CellsTest::writeAddsStatements,
+                CellsTest::writeTakesAllOperands,
+                CellsTest::writeRefusesWhatIsOutOfRange,
+                CellsTest::writeThrowsInOrder,
+                CellsTest::writeNeedsEdit,
+                CellsTest::clearEmptiesAProgram,
+                CellsTest::clearRefuses,
+                CellsTest::clearOfNothingIsNoChange,
+                CellsTest::moveKeepsTheOthers,
+                CellsTest::moveAndCellAtRefuse,
+                CellsTest::programsAreWrittenOut,
+                CellsTest::sourceRefuses);
         Checks.end();
     }
 

@@ -10,6 +10,18 @@ final class Checks {
     private Checks() {
     }
 
+    /** Makes all the tests, one behind the other, even if one of them throws. */
+    static void run(Runnable... tests) {
+        for (Runnable test : tests) {
+            sentence = "";
+            try {
+                test.run();
+            } catch (RuntimeException e) {
+                fail("the test ends with " + thrownBy(e));
+            }
+        }
+    }
+
     /** The checks that follow hold these words of the document: those that fail are printed with them. */
     static void sentence(String where, String... words) {
         sentence = where + ", \"" + String.join("\", \"", words) + "\": ";

@@ -4,12 +4,13 @@ final class InOrderTest {
     }
 
     public static void main(String[] args) {
-        cellsRunInTheirOrder();
-        cellsBeginWithAllNamesUnset();
-        aCellThatFailsLeavesTheNames();
-        nothingIsRun();
-        unlikeTellsNames();
-        refusals();
+        Checks.run(
+                InOrderTest::cellsRunInTheirOrder,
+                InOrderTest::cellsBeginWithAllNamesUnset,
+                InOrderTest::aCellThatFailsLeavesTheNames,
+                InOrderTest::nothingIsRun,
+                InOrderTest::unlikeTellsNames,
+                InOrderTest::refusals);
         Checks.end();
     }
 

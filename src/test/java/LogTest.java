@@ -4,11 +4,12 @@ final class LogTest {
     }
 
     public static void main(String[] args) {
-        runsAreLogged();
-        forgetTakesOutRunsOfAUser();
-        forgetKeepsLastRuns();
-        lastRunsAreThoseOfNow();
-        refusals();
+        Checks.run(
+                LogTest::runsAreLogged,
+                LogTest::forgetTakesOutRunsOfAUser,
+                LogTest::forgetKeepsLastRuns,
+                LogTest::lastRunsAreThoseOfNow,
+                LogTest::refusals);
         Checks.end();
     }
 

@@ -4,14 +4,15 @@ final class RightsEdgesTest {
     }
 
     public static void main(String[] args) {
-        grantGivesARight();
-        grantReturnsTheRightBefore();
-        grantThrowsWithoutUserOrCell();
-        grantThrowsForTheHost();
-        grantThrowsOutOfRange();
-        rightIsThatOfTheUser();
-        rightOfTheHostIsEdit();
-        rightThrows();
+        Checks.run(
+                RightsEdgesTest::grantGivesARight,
+                RightsEdgesTest::grantReturnsTheRightBefore,
+                RightsEdgesTest::grantThrowsWithoutUserOrCell,
+                RightsEdgesTest::grantThrowsForTheHost,
+                RightsEdgesTest::grantThrowsOutOfRange,
+                RightsEdgesTest::rightIsThatOfTheUser,
+                RightsEdgesTest::rightOfTheHostIsEdit,
+                RightsEdgesTest::rightThrows);
         Checks.end();
     }
 

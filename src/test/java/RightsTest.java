@@ -4,10 +4,11 @@ final class RightsTest {
     }
 
     public static void main(String[] args) {
-        rightsAreByGuestAndCell();
-        theHostMayEdit();
-        grantRefuses();
-        rightRefuses();
+        Checks.run(
+                RightsTest::rightsAreByGuestAndCell,
+                RightsTest::theHostMayEdit,
+                RightsTest::grantRefuses,
+                RightsTest::rightRefuses);
         Checks.end();
     }
 

@@ -8,28 +8,30 @@ final class RunTermsEdgesTest {
     }
 
     public static void main(String[] args) {
-        overIsRoundedTowardZero();
-        runsAreNumbered();
-        statementsAreDoneOneBehindTheOther();
-        anUnsetOperandFails();
-        aNameSetAheadInTheRunIsSet();
-        plusThatIsNoIntFails();
-        minusThatIsNoIntFails();
-        timesThatIsNoIntFails();
-        overThatIsNoIntFails();
-        divisionByZeroFails();
-        aFailureLeavesNamesAsTheyWere();
-        namesSetHaveTheirNewValues();
-        namesSetHaveTheRunAsStamp();
-        anUnsetNameHasStampZero();
-        namesSetAheadAreNotSeen();
-        namesAreSeenWithTheStampsThatTheyHad();
-        aFailureHasSeenWhatItRead();
-        anUnsetNameIsSeen();
-        theResultIsTheLastValue();
-        noResultOfAFailure();
-        noResultOfAnEmptyProgram();
-        cellsHaveALastRunOrNone();
+        Checks.run(
+                RunTermsEdgesTest::aStatementSetsWhatComesOfTwoOperands,
+                RunTermsEdgesTest::overIsRoundedTowardZero,
+                RunTermsEdgesTest::runsAreNumbered,
+                RunTermsEdgesTest::statementsAreDoneOneBehindTheOther,
+                RunTermsEdgesTest::anUnsetOperandFails,
+                RunTermsEdgesTest::aNameSetAheadInTheRunIsSet,
+                RunTermsEdgesTest::plusThatIsNoIntFails,
+                RunTermsEdgesTest::minusThatIsNoIntFails,
+                RunTermsEdgesTest::timesThatIsNoIntFails,
+                RunTermsEdgesTest::overThatIsNoIntFails,
+                RunTermsEdgesTest::divisionByZeroFails,
+                RunTermsEdgesTest::aFailureLeavesNamesAsTheyWere,
+                RunTermsEdgesTest::namesSetHaveTheirNewValues,
+                RunTermsEdgesTest::namesSetHaveTheRunAsStamp,
+                RunTermsEdgesTest::anUnsetNameHasStampZero,
+                RunTermsEdgesTest::namesSetAheadAreNotSeen,
+                RunTermsEdgesTest::namesAreSeenWithTheStampsThatTheyHad,
+                RunTermsEdgesTest::aFailureHasSeenWhatItRead,
+                RunTermsEdgesTest::anUnsetNameIsSeen,
+                RunTermsEdgesTest::theResultIsTheLastValue,
+                RunTermsEdgesTest::noResultOfAFailure,
+                RunTermsEdgesTest::noResultOfAnEmptyProgram,
+                RunTermsEdgesTest::cellsHaveALastRunOrNone);
         Checks.end();
     }
 
@@ -52,6 +54,21 @@ final class RunTermsEdgesTest {
         Checks.same("run of " + program, notebook.run(0, 0), false);
         Checks.same("names set by " + program, notebook.end(), 0);
         Checks.same("a set in order by " + program, notebook.isSetInOrder(Notebooks.A), false);
+    }
+
+    private static void aStatementSetsWhatComesOfTwoOperands() {
+        Checks.sentence("Terms", "A statement sets a name to what comes of an operation with two operands: PLUS, "
+                + "MINUS, TIMES, or OVER");
+        comesTo("a=-500+-500", -1000);
+        comesTo("a=500+-500", 0);
+        comesTo("a=-500-500", -1000);
+        comesTo("a=500--500", 1000);
+        comesTo("a=-500*-500", 250000);
+        comesTo("a=500*0", 0);
+        comesTo("a=-500/500", -1);
+        comesTo("a=1/500", 0);
+        comesTo("a=7+0;b=a-2;h=b-a", -2);
+        comesTo("a=7+0;b=a/2;h=a/b", 2);
     }
 
     private static void overIsRoundedTowardZero() {

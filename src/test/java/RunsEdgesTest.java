@@ -6,21 +6,22 @@ final class RunsEdgesTest {
     }
 
     public static void main(String[] args) {
-        runIsByAUserOnACell();
-        runReturnsWhetherItDoesNotFail();
-        runThrowsWithoutUserOrCell();
-        runThrowsWithoutRun();
-        runThrowsIfThereWereFourHundred();
-        runsAreCountedWhateverBecomesOfThem();
-        refreshGoesInTheOrder();
-        refreshRunsWhatTheUserMay();
-        refreshRunsWhatIsStale();
-        refreshRunsWhatHasNoLastRun();
-        refreshLooksWhenATurnComes();
-        refreshReturnsHowMany();
-        refreshThrowsWithoutUser();
-        refreshThrowsIfThereWereMoreThanThreeHundredEighty();
-        refreshMayPassThreeHundredEighty();
+        Checks.run(
+                RunsEdgesTest::runIsByAUserOnACell,
+                RunsEdgesTest::runReturnsWhetherItDoesNotFail,
+                RunsEdgesTest::runThrowsWithoutUserOrCell,
+                RunsEdgesTest::runThrowsWithoutRun,
+                RunsEdgesTest::runThrowsIfThereWereFourHundred,
+                RunsEdgesTest::runsAreCountedWhateverBecomesOfThem,
+                RunsEdgesTest::refreshGoesInTheOrder,
+                RunsEdgesTest::refreshRunsWhatTheUserMay,
+                RunsEdgesTest::refreshRunsWhatIsStale,
+                RunsEdgesTest::refreshRunsWhatHasNoLastRun,
+                RunsEdgesTest::refreshLooksWhenATurnComes,
+                RunsEdgesTest::refreshReturnsHowMany,
+                RunsEdgesTest::refreshThrowsWithoutUser,
+                RunsEdgesTest::refreshThrowsIfThereWereMoreThanThreeHundredEighty,
+                RunsEdgesTest::refreshMayPassThreeHundredEighty);
         Checks.end();
     }
 
@@ -134,7 +135,7 @@ final class RunsEdgesTest {
     }
 
     private static void refreshRunsWhatTheUserMay() {
-        Checks.sentence("Promise 13", "each cell that the user may RUN");
+        Checks.sentence("Promise 13", "each cell that the user may RUN", "user: 0 to 4");
         for (int guest = 1; guest < Notebooks.USERS; guest++) {
             CellNotebook notebook = Notebooks.withCells(6);
             for (int cell = 0; cell < 4; cell++) {

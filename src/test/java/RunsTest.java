@@ -6,26 +6,27 @@ final class RunsTest {
     }
 
     public static void main(String[] args) {
-        aRunSetsNames();
-        operationsComeToTheirValues();
-        outcomesThatAreNoIntFail();
-        aRunThatFailsLeavesTheNames();
-        anEmptyProgramHasNoResult();
-        namesAreSeenUnlessSetAhead();
-        aRunThatFailsHasSeenWhatItRead();
-        runNeedsRun();
-        runRefuses();
-        thereAreFourHundredRunsAtMost();
-        refreshRunsInTheOrder();
-        refreshLooksWhenATurnComes();
-        refreshDoesNotTurnBack();
-        refreshRunsWhatTheUserMay();
-        refreshRefuses();
-        namesRefuse();
-        resultsNeedSee();
-        resultsStayWhenStale();
-        lastRunsRefuse();
-        timesSeenCountsRuns();
+        Checks.run(
+                RunsTest::aRunSetsNames,
+                RunsTest::operationsComeToTheirValues,
+                RunsTest::outcomesThatAreNoIntFail,
+                RunsTest::aRunThatFailsLeavesTheNames,
+                RunsTest::anEmptyProgramHasNoResult,
+                RunsTest::namesAreSeenUnlessSetAhead,
+                RunsTest::aRunThatFailsHasSeenWhatItRead,
+                RunsTest::runNeedsRun,
+                RunsTest::runRefuses,
+                RunsTest::thereAreFourHundredRunsAtMost,
+                RunsTest::refreshRunsInTheOrder,
+                RunsTest::refreshLooksWhenATurnComes,
+                RunsTest::refreshDoesNotTurnBack,
+                RunsTest::refreshRunsWhatTheUserMay,
+                RunsTest::refreshRefuses,
+                RunsTest::namesRefuse,
+                RunsTest::resultsNeedSee,
+                RunsTest::resultsStayWhenStale,
+                RunsTest::lastRunsRefuse,
+                RunsTest::timesSeenCountsRuns);
         Checks.end();
     }
 

@@ -6,27 +6,28 @@ final class SeenEdgesTest {
     }
 
     public static void main(String[] args) {
-        isSetTells();
-        isSetThrows();
-        valueIsThatOfTheName();
-        valueThrowsWithoutName();
-        valueThrowsIfUnset();
-        stampIsTheRunThatHasSet();
-        stampThrows();
-        lastRunIsTheNumber();
-        lastRunThrows();
-        hasResultTells();
-        hasResultThrows();
-        resultIsThatOfTheLastRun();
-        resultThrowsWithoutUserOrCell();
-        resultThrowsWithoutSee();
-        resultThrowsIfThereIsNone();
-        seenIsASet();
-        seenIsNothingWithoutALastRun();
-        seenThrows();
-        timesSeenCountsAllRuns();
-        timesSeenCountsRunsNotReads();
-        timesSeenThrows();
+        Checks.run(
+                SeenEdgesTest::isSetTells,
+                SeenEdgesTest::isSetThrows,
+                SeenEdgesTest::valueIsThatOfTheName,
+                SeenEdgesTest::valueThrowsWithoutName,
+                SeenEdgesTest::valueThrowsIfUnset,
+                SeenEdgesTest::stampIsTheRunThatHasSet,
+                SeenEdgesTest::stampThrows,
+                SeenEdgesTest::lastRunIsTheNumber,
+                SeenEdgesTest::lastRunThrows,
+                SeenEdgesTest::hasResultTells,
+                SeenEdgesTest::hasResultThrows,
+                SeenEdgesTest::resultIsThatOfTheLastRun,
+                SeenEdgesTest::resultThrowsWithoutUserOrCell,
+                SeenEdgesTest::resultThrowsWithoutSee,
+                SeenEdgesTest::resultThrowsIfThereIsNone,
+                SeenEdgesTest::seenIsASet,
+                SeenEdgesTest::seenIsNothingWithoutALastRun,
+                SeenEdgesTest::seenThrows,
+                SeenEdgesTest::timesSeenCountsAllRuns,
+                SeenEdgesTest::timesSeenCountsRunsNotReads,
+                SeenEdgesTest::timesSeenThrows);
         Checks.end();
     }
 
@@ -100,7 +101,8 @@ final class SeenEdgesTest {
     }
 
     private static void stampIsTheRunThatHasSet() {
-        Checks.sentence("Promise 16", "Returns the number of the run that has set it; 0 if it is unset", "name: 0 to 7");
+        Checks.sentence("Promise 16", "Returns the number of the run that has set it; 0 if it is unset",
+                "name: 0 to 7");
         for (int name = 0; name < Notebooks.NAMES; name++) {
             CellNotebook notebook = Notebooks.withCells(2);
             Checks.same("at first", notebook.stamp(name), 0);

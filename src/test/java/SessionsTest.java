@@ -4,15 +4,16 @@ final class SessionsTest {
     }
 
     public static void main(String[] args) {
-        imagesAreNumbered();
-        restoreMakesNamesAndLastRunsAsTheyWere();
-        restoreLeavesTheRest();
-        cellsThatWereNotThereHaveNoLastRun();
-        aChangeBehindARestoredRunIsStillSo();
-        restoredCellsRestOnRestoredRuns();
-        imagesStayAsTheyAre();
-        endUnsetsAllNames();
-        restoreRefuses();
+        Checks.run(
+                SessionsTest::imagesAreNumbered,
+                SessionsTest::restoreMakesNamesAndLastRunsAsTheyWere,
+                SessionsTest::restoreLeavesTheRest,
+                SessionsTest::cellsThatWereNotThereHaveNoLastRun,
+                SessionsTest::aChangeBehindARestoredRunIsStillSo,
+                SessionsTest::restoredCellsRestOnRestoredRuns,
+                SessionsTest::imagesStayAsTheyAre,
+                SessionsTest::endUnsetsAllNames,
+                SessionsTest::restoreRefuses);
         Checks.end();
     }
 

@@ -8,20 +8,21 @@ final class StaleTest {
     }
 
     public static void main(String[] args) {
-        aCellWithoutALastRunIsNotStale();
-        editedByWriteAndByClear();
-        editedIsOverWithARun();
-        changedByAnotherStamp();
-        changedThoughTheValueIsTheSame();
-        restingOnAStaleCell();
-        restingOnARunThatIsNotTheLast();
-        restingWhateverTheStampIsNow();
-        notRestingOnItself();
-        aCellRestsOnARunThatFailed();
-        chainsOfAllCells();
-        wouldBeStaleIsChangedAndWhatRestsOnIt();
-        wouldBeStaleLeavesOutWhatIsStale();
-        refusals();
+        Checks.run(
+                StaleTest::aCellWithoutALastRunIsNotStale,
+                StaleTest::editedByWriteAndByClear,
+                StaleTest::editedIsOverWithARun,
+                StaleTest::changedByAnotherStamp,
+                StaleTest::changedThoughTheValueIsTheSame,
+                StaleTest::restingOnAStaleCell,
+                StaleTest::restingOnARunThatIsNotTheLast,
+                StaleTest::restingWhateverTheStampIsNow,
+                StaleTest::notRestingOnItself,
+                StaleTest::aCellRestsOnARunThatFailed,
+                StaleTest::chainsOfAllCells,
+                StaleTest::wouldBeStaleIsChangedAndWhatRestsOnIt,
+                StaleTest::wouldBeStaleLeavesOutWhatIsStale,
+                StaleTest::refusals);
         Checks.end();
     }
 

@@ -8,22 +8,24 @@ final class TermsEdgesTest {
     }
 
     public static void main(String[] args) {
-        anObjectIsUsedForManyCalls();
-        cellsAreNumbered();
-        cellsStandInAnOrder();
-        programsAreRows();
-        namesAreEight();
-        namesAreUnsetOrHaveAnInt();
-        operandsAreNamesOrNumbers();
-        numbersAreLessSixHundred();
-        textsAreStatements();
-        textsWriteNamesAndNumbers();
-        usersAreFive();
-        guestsHaveARightForEachCell();
-        outOfBoundsIfThereIsNone();
-        theFirstListedIsThrown();
-        aThrowChangesNothing();
-        aThrowChangesNothingThatIsKept();
+        Checks.run(
+                TermsEdgesTest::anObjectIsUsedForManyCalls,
+                TermsEdgesTest::cellsAreNumbered,
+                TermsEdgesTest::cellsStandInAnOrder,
+                TermsEdgesTest::programsAreRows,
+                TermsEdgesTest::namesAreEight,
+                TermsEdgesTest::namesAreUnsetOrHaveAnInt,
+                TermsEdgesTest::operandsAreNamesOrNumbers,
+                TermsEdgesTest::numbersAreLessSixHundred,
+                TermsEdgesTest::textsAreStatements,
+                TermsEdgesTest::textsWriteNamesAndNumbers,
+                TermsEdgesTest::usersAreFive,
+                TermsEdgesTest::guestsHaveARightForEachCell,
+                TermsEdgesTest::outOfBoundsIfThereIsNone,
+                TermsEdgesTest::illegalArgumentIfOutOfRange,
+                TermsEdgesTest::theFirstListedIsThrown,
+                TermsEdgesTest::aThrowChangesNothing,
+                TermsEdgesTest::aThrowChangesNothingThatIsKept);
         Checks.end();
     }
 
@@ -230,6 +232,11 @@ final class TermsEdgesTest {
         Checks.outOfBounds("cellAt of a place not yet there", notebook, () -> notebook.cellAt(1));
         Checks.outOfBounds("move to a place not yet there", notebook, () -> notebook.move(0, 1));
         Checks.outOfBounds("logAt of a run not yet there", notebook, () -> notebook.logAt(1));
+    }
+
+    private static void illegalArgumentIfOutOfRange() {
+        Checks.sentence("Terms", "an IllegalArgumentException if another argument is out of its range");
+        makeCallsOutOfRange(CallsBy.busyNotebook());
     }
 
     private static void theFirstListedIsThrown() {
