@@ -20,17 +20,9 @@ final class InOrderEdgesTest {
         Checks.end();
     }
 
-    private static CellNotebook withPrograms(String... programs) {
-        CellNotebook notebook = Notebooks.withCells(programs.length);
-        for (int cell = 0; cell < programs.length; cell++) {
-            Notebooks.program(notebook, cell, programs[cell]);
-        }
-        return notebook;
-    }
-
     private static void allNamesAreUnsetAhead() {
         Checks.sentence("Promise 28", "Tells whether a name would be set if all names were unset", "name: 0 to 7");
-        CellNotebook notebook = withPrograms("b=a+1", "a=1-1", "h=b+b");
+        CellNotebook notebook = Notebooks.withPrograms("b=a+1", "a=1-1", "h=b+b");
         notebook.run(0, 1);
         notebook.run(0, 0);
         notebook.run(0, 2);
@@ -64,11 +56,11 @@ final class InOrderEdgesTest {
 
     private static void cellsAreRunOnceEach() {
         Checks.sentence("Promise 28", "once each");
-        CellNotebook notebook = withPrograms("c=b+1", "b=a+1", "a=1+1");
+        CellNotebook notebook = Notebooks.withPrograms("c=b+1", "b=a+1", "a=1+1");
         Checks.same("a", notebook.isSetInOrder(Notebooks.A), true);
         Checks.same("b: its cell is not run again behind a", notebook.isSetInOrder(Notebooks.B), false);
         Checks.same("c", notebook.isSetInOrder(Notebooks.C), false);
-        CellNotebook counter = withPrograms("a=1-1", "a=a+1");
+        CellNotebook counter = Notebooks.withPrograms("a=1-1", "a=a+1");
         counter.refresh(0);
         counter.run(0, 1);
         Checks.same("value now, of two runs", counter.value(Notebooks.A), 2);
@@ -77,7 +69,7 @@ final class InOrderEdgesTest {
 
     private static void nothingIsRunIndeed() {
         Checks.sentence("Promise 28", "would be set");
-        CellNotebook notebook = withPrograms("a=1+1", "b=a+h", "c=a+a");
+        CellNotebook notebook = Notebooks.withPrograms("a=1+1", "b=a+h", "c=a+a");
         notebook.run(0, 2);
         notebook.keep();
         String before = Notebooks.allAnswers(notebook);
@@ -86,6 +78,9 @@ final class InOrderEdgesTest {
         notebook.unlikeInOrder();
         Checks.same("all answers", Notebooks.allAnswers(notebook), before);
         Checks.same("runs", notebook.runs(), 1);
+        Checks.same("last run of the cell that was run", notebook.lastRun(2), 1);
+        Checks.same("last run of another", notebook.lastRun(0), 0);
+        Checks.same("a name that a cell would set", notebook.isSet(Notebooks.A), false);
         Checks.same("times seen", notebook.timesSeen(Notebooks.A), 1);
         for (int run = 1; run < 400; run++) {
             notebook.run(0, 1);
@@ -111,7 +106,8 @@ final class InOrderEdgesTest {
             Checks.same("value now", notebook.value(name), -1 - name);
             Checks.same("value in order", notebook.valueInOrder(name), -2 - 2 * name);
         }
-        CellNotebook bounds = withPrograms("a=128*256;b=a*a;c=b-1;c=c+b", "d=0-b;d=d-b", "e=1-1", "c=c+1", "d=d-1");
+        CellNotebook bounds = Notebooks.withPrograms("a=128*256;b=a*a;c=b-1;c=c+b", "d=0-b;d=d-b", "e=1-1",
+                "c=c+1", "d=d-1");
         Checks.same("the highest int", bounds.valueInOrder(Notebooks.C), Integer.MAX_VALUE);
         Checks.same("the lowest int", bounds.valueInOrder(Notebooks.D), Integer.MIN_VALUE);
         Checks.same("0", bounds.valueInOrder(Notebooks.E), 0);
@@ -129,7 +125,7 @@ final class InOrderEdgesTest {
         Checks.sentence("Promise 29", "Throws IllegalStateException if it would be unset");
         CellNotebook empty = new CellNotebook();
         Checks.illegalState("without cells", empty, () -> empty.valueInOrder(Notebooks.A));
-        CellNotebook notebook = withPrograms("b=a+1", "a=1-1", "c=1+1;c=c/a");
+        CellNotebook notebook = Notebooks.withPrograms("b=a+1", "a=1-1", "c=1+1;c=c/a");
         notebook.run(0, 1);
         notebook.run(0, 0);
         Checks.same("a would be 0", notebook.valueInOrder(Notebooks.A), 0);
@@ -140,7 +136,7 @@ final class InOrderEdgesTest {
 
     private static void unlikeIfSetNowAlone() {
         Checks.sentence("Promise 30", "Returns the names that are set now and would not be then");
-        CellNotebook notebook = withPrograms("a=1-1;h=1+1");
+        CellNotebook notebook = Notebooks.withPrograms("a=1-1;h=1+1");
         notebook.run(0, 0);
         Checks.same("set now and then", notebook.unlikeInOrder(), 0);
         notebook.clear(0, 0);
@@ -149,7 +145,7 @@ final class InOrderEdgesTest {
 
     private static void unlikeIfSetThenAlone() {
         Checks.sentence("Promise 30", "or the other way round");
-        CellNotebook notebook = withPrograms("a=1-1;h=1+1");
+        CellNotebook notebook = Notebooks.withPrograms("a=1-1;h=1+1");
         Checks.same("set then alone, one of them to 0", notebook.unlikeInOrder(), 129);
         notebook.run(0, 0);
         notebook.end();
@@ -158,7 +154,7 @@ final class InOrderEdgesTest {
 
     private static void unlikeIfTheValueIsAnother() {
         Checks.sentence("Promise 30", "or have another value");
-        CellNotebook notebook = withPrograms("a=1-1;h=1+1");
+        CellNotebook notebook = Notebooks.withPrograms("a=1-1;h=1+1");
         notebook.run(0, 0);
         notebook.run(0, 0);
         Checks.same("the same values with another stamp", notebook.unlikeInOrder(), 0);

@@ -16,6 +16,15 @@ final class Notebooks {
         return notebook;
     }
 
+    /** A cell for each of the programs; nothing is run. */
+    static CellNotebook withPrograms(String... programs) {
+        CellNotebook notebook = withCells(programs.length);
+        for (int cell = 0; cell < programs.length; cell++) {
+            program(notebook, cell, programs[cell]);
+        }
+        return notebook;
+    }
+
     /** The operand for a number from -500 to 500. */
     static int number(int value) {
         return value + 600;
@@ -37,6 +46,11 @@ final class Notebooks {
     static void programAnew(CellNotebook notebook, int cell, String statements) {
         notebook.clear(HOST, cell);
         program(notebook, cell, statements);
+    }
+
+    static void runAnew(CellNotebook notebook, int cell, String statements) {
+        programAnew(notebook, cell, statements);
+        notebook.run(HOST, cell);
     }
 
     static String text(CellNotebook notebook, int cell) {

@@ -35,14 +35,8 @@ final class RunTermsEdgesTest {
         Checks.end();
     }
 
-    private static CellNotebook withProgram(String program) {
-        CellNotebook notebook = Notebooks.withCells(1);
-        Notebooks.program(notebook, 0, program);
-        return notebook;
-    }
-
     private static void comesTo(String program, int due) {
-        CellNotebook notebook = withProgram(program);
+        CellNotebook notebook = Notebooks.withPrograms(program);
         Checks.same("run of " + program, notebook.run(0, 0), true);
         Checks.same("result of " + program, notebook.hasResult(0) ? notebook.result(0, 0) : 0, due);
         int name = program.charAt(program.lastIndexOf('=') - 1) - 'a';
@@ -50,7 +44,7 @@ final class RunTermsEdgesTest {
     }
 
     private static void fails(String program) {
-        CellNotebook notebook = withProgram(program);
+        CellNotebook notebook = Notebooks.withPrograms(program);
         Checks.same("run of " + program, notebook.run(0, 0), false);
         Checks.same("names set by " + program, notebook.end(), 0);
         Checks.same("a set in order by " + program, notebook.isSetInOrder(Notebooks.A), false);
@@ -115,10 +109,10 @@ final class RunTermsEdgesTest {
         fails("a=a+1");
         fails("a=0*h");
         fails("a=1+1;b=2+2;c=3+3;d=4+4;e=5+5;f=g-1");
-        CellNotebook left = withProgram("a=1+1;c=g+h;d=e+f");
+        CellNotebook left = Notebooks.withPrograms("a=1+1;c=g+h;d=e+f");
         left.run(0, 0);
         Checks.same("seen: the left one first, and no statement behind", left.seen(0), 1 << Notebooks.G);
-        CellNotebook right = withProgram("a=1+1;c=a+h;d=e+f");
+        CellNotebook right = Notebooks.withPrograms("a=1+1;c=a+h;d=e+f");
         right.run(0, 0);
         Checks.same("seen: the right one, and no statement behind", right.seen(0), 1 << Notebooks.H);
     }
@@ -127,7 +121,7 @@ final class RunTermsEdgesTest {
         Checks.sentence("Terms", "and that no statement ahead of it in this run has set");
         comesTo("b=1+1;a=b+b", 4);
         comesTo("h=1+1;b=2+2;c=3+3;d=4+4;e=5+5;a=h+1", 3);
-        CellNotebook notebook = withProgram("b=1+1;a=b/0");
+        CellNotebook notebook = Notebooks.withPrograms("b=1+1;a=b/0");
         Notebooks.program(notebook, notebook.addCell(), "a=b+1");
         notebook.run(0, 0);
         Checks.same("a name that was set in a run that failed", notebook.run(0, 1), false);
@@ -186,7 +180,7 @@ final class RunTermsEdgesTest {
 
     private static void aFailureLeavesNamesAsTheyWere() {
         Checks.sentence("Terms", "then all names are as they were ahead of the run");
-        CellNotebook notebook = withProgram("a=5+0;b=6+0");
+        CellNotebook notebook = Notebooks.withPrograms("a=5+0;b=6+0");
         notebook.addCell();
         notebook.run(0, 0);
         String[] failures = {"a=1+1;b=2+2;c=3+3;h=4+4;d=c/0", "a=1+1;b=h+1", "a=500*500;c=500*500;b=a*c"};
@@ -203,7 +197,7 @@ final class RunTermsEdgesTest {
 
     private static void namesSetHaveTheirNewValues() {
         Checks.sentence("Terms", "Otherwise the names that it has set have their new values");
-        CellNotebook notebook = withProgram("a=1+1;a=a+5;b=a*a;a=a-9");
+        CellNotebook notebook = Notebooks.withPrograms("a=1+1;a=a+5;b=a*a;a=a-9");
         Checks.same("run", notebook.run(0, 0), true);
         Checks.same("a, set last", notebook.value(Notebooks.A), -2);
         Checks.same("b", notebook.value(Notebooks.B), 49);
@@ -216,7 +210,7 @@ final class RunTermsEdgesTest {
 
     private static void namesSetHaveTheRunAsStamp() {
         Checks.sentence("Terms", "and their stamp is the number of the run");
-        CellNotebook notebook = withProgram("a=1+1;h=1+1");
+        CellNotebook notebook = Notebooks.withPrograms("a=1+1;h=1+1");
         notebook.addCell();
         Notebooks.program(notebook, 1, "a=a+0");
         notebook.run(0, 0);
@@ -228,7 +222,7 @@ final class RunTermsEdgesTest {
 
     private static void anUnsetNameHasStampZero() {
         Checks.sentence("Terms", "the stamp of a name that is unset is 0");
-        CellNotebook notebook = withProgram("a=1+1;b=1+1");
+        CellNotebook notebook = Notebooks.withPrograms("a=1+1;b=1+1");
         Notebooks.program(notebook, notebook.addCell(), "c=a/0");
         Checks.same("stamp at first", notebook.stamp(Notebooks.A), 0);
         notebook.run(0, 0);
@@ -240,7 +234,7 @@ final class RunTermsEdgesTest {
     }
 
     private static void seesOf(String program, int due) {
-        CellNotebook notebook = withProgram("a=1+1;b=2+2;c=3+3;d=4+4;e=5-5");
+        CellNotebook notebook = Notebooks.withPrograms("a=1+1;b=2+2;c=3+3;d=4+4;e=5-5");
         notebook.run(0, 0);
         Notebooks.programAnew(notebook, 0, program);
         notebook.run(0, 0);
@@ -259,7 +253,7 @@ final class RunTermsEdgesTest {
 
     private static void namesAreSeenWithTheStampsThatTheyHad() {
         Checks.sentence("Terms", "with the stamps that they had");
-        CellNotebook notebook = withProgram("a=1+1;b=1+1");
+        CellNotebook notebook = Notebooks.withPrograms("a=1+1;b=1+1");
         notebook.addCell();
         Notebooks.program(notebook, 1, "c=a+b;a=c+1;c=a+b");
         notebook.run(0, 0);
@@ -284,7 +278,7 @@ final class RunTermsEdgesTest {
         seesOf("a=g+1", 64);
         seesOf("a=1+h", 128);
         seesOf("f=f+f", 32);
-        CellNotebook notebook = withProgram("a=g+1");
+        CellNotebook notebook = Notebooks.withPrograms("a=g+1");
         Notebooks.program(notebook, notebook.addCell(), "g=1+1");
         notebook.run(0, 0);
         Checks.same("it was seen as unset", notebook.why(0), 0);
@@ -296,6 +290,8 @@ final class RunTermsEdgesTest {
     private static void theResultIsTheLastValue() {
         Checks.sentence("Terms", "Its result is the value that its last statement has set");
         comesTo("a=1-1", 0);
+        comesTo("a=1-2", -1);
+        comesTo(LOWEST, Integer.MIN_VALUE);
         comesTo("a=1+1;b=2+2;c=3+3;d=4+4;e=5+5;a=6+6", 12);
         comesTo("a=1+1;a=a+1", 3);
     }

@@ -31,12 +31,6 @@ final class SeenEdgesTest {
         Checks.end();
     }
 
-    private static CellNotebook withProgram(String program) {
-        CellNotebook notebook = Notebooks.withCells(1);
-        Notebooks.program(notebook, 0, program);
-        return notebook;
-    }
-
     private static void isSetTells() {
         Checks.sentence("Promise 14", "Tells whether a name is set", "name: 0 to 7");
         for (int name = 0; name < Notebooks.NAMES; name++) {
@@ -65,7 +59,7 @@ final class SeenEdgesTest {
 
     private static void valueIsThatOfTheName() {
         Checks.sentence("Promise 15", "Returns the value of a name", "name: 0 to 7");
-        CellNotebook notebook = withProgram("a=0-500;b=1-1;c=1+1;f=0-1;g=6+0;h=500+0");
+        CellNotebook notebook = Notebooks.withPrograms("a=0-500;b=1-1;c=1+1;f=0-1;g=6+0;h=500+0");
         notebook.run(0, 0);
         Checks.same("the first name", notebook.value(Notebooks.A), -500);
         Checks.same("0", notebook.value(Notebooks.B), 0);
@@ -84,7 +78,7 @@ final class SeenEdgesTest {
 
     private static void valueThrowsIfUnset() {
         Checks.sentence("Promise 15", "Throws IllegalStateException if it is unset");
-        CellNotebook notebook = withProgram("a=1+1;h=a+1");
+        CellNotebook notebook = Notebooks.withPrograms("a=1+1;h=a+1");
         Checks.illegalState("at first", notebook, () -> notebook.value(Notebooks.H));
         notebook.keep();
         notebook.run(0, 0);
@@ -277,7 +271,7 @@ final class SeenEdgesTest {
 
     private static void seenIsNothingWithoutALastRun() {
         Checks.sentence("Promise 20", "0 if it has no last run");
-        CellNotebook notebook = withProgram("a=b+c");
+        CellNotebook notebook = Notebooks.withPrograms("a=b+c");
         Checks.same("never run", notebook.seen(0), 0);
         notebook.keep();
         notebook.run(0, 0);
@@ -328,7 +322,7 @@ final class SeenEdgesTest {
                 Checks.same("times that " + other + " was seen", notebook.timesSeen(other), other == name ? 1 : 0);
             }
         }
-        CellNotebook notebook = withProgram("g=1+1;h=g*g;g=h+g");
+        CellNotebook notebook = Notebooks.withPrograms("g=1+1;h=g*g;g=h+g");
         notebook.run(0, 0);
         Checks.same("set ahead in the run", notebook.timesSeen(Notebooks.G), 0);
     }

@@ -38,16 +38,11 @@ final class SessionsEdgesTest {
         return notebook;
     }
 
-    private static void runAnew(CellNotebook notebook, int cell, String program) {
-        Notebooks.programAnew(notebook, cell, program);
-        notebook.run(0, cell);
-    }
-
     private static void anImageKeepsValues() {
         Checks.sentence("Terms", "An image keeps the values", "To restore it is to make these as they were then");
         CellNotebook notebook = withAllNamesSet();
         notebook.keep();
-        runAnew(notebook, 0, "a=0+0;h=0+0;c=9+9");
+        Notebooks.runAnew(notebook, 0, "a=0+0;h=0+0;c=9+9");
         notebook.keep();
         notebook.restore(0);
         for (int name = 0; name < Notebooks.NAMES; name++) {
@@ -66,13 +61,18 @@ final class SessionsEdgesTest {
         notebook.keep();
         notebook.run(0, 1);
         notebook.run(0, 0);
-        notebook.end();
         notebook.keep();
         notebook.restore(0);
         for (int name = 0; name < Notebooks.NAMES; name++) {
             Checks.same("stamp of " + name, notebook.stamp(name), name < 4 ? 1 : 2);
         }
+        notebook.end();
+        notebook.keep();
         notebook.restore(1);
+        for (int name = 0; name < Notebooks.NAMES; name++) {
+            Checks.same("stamp of " + name, notebook.stamp(name), name < 4 ? 4 : 3);
+        }
+        notebook.restore(2);
         for (int name = 0; name < Notebooks.NAMES; name++) {
             Checks.same("stamp of " + name + ", unset", notebook.stamp(name), 0);
             Checks.same("isSet of " + name, notebook.isSet(name), false);
@@ -86,8 +86,8 @@ final class SessionsEdgesTest {
         Notebooks.program(notebook, 15, "b=a+a");
         notebook.refresh(0);
         notebook.keep();
-        runAnew(notebook, 0, "b=b+1");
-        runAnew(notebook, 15, "c=h+1");
+        Notebooks.runAnew(notebook, 0, "b=b+1");
+        Notebooks.runAnew(notebook, 15, "c=h+1");
         Checks.same("no result now", notebook.hasResult(15), false);
         notebook.restore(0);
         for (int cell = 0; cell < 16; cell++) {
@@ -181,9 +181,9 @@ final class SessionsEdgesTest {
     private static void changedBehindARunIsStillSo() {
         Checks.sentence("Terms", "and whether a program was changed behind a run is still so");
         CellNotebook notebook = Notebooks.withCells(1);
-        runAnew(notebook, 0, "a=1+1");
+        Notebooks.runAnew(notebook, 0, "a=1+1");
         notebook.keep();
-        runAnew(notebook, 0, "a=2+2");
+        Notebooks.runAnew(notebook, 0, "a=2+2");
         notebook.keep();
         notebook.restore(0);
         Checks.same("changed behind the run of the first image", notebook.why(0), CellNotebook.EDITED);
@@ -197,7 +197,7 @@ final class SessionsEdgesTest {
         notebook.restore(1);
         Checks.same("the earlier run again", notebook.why(0), CellNotebook.EDITED);
         CellNotebook edited = Notebooks.withCells(1);
-        runAnew(edited, 0, "a=1+1");
+        Notebooks.runAnew(edited, 0, "a=1+1");
         edited.clear(0, 0);
         edited.keep();
         edited.run(0, 0);
@@ -215,14 +215,14 @@ final class SessionsEdgesTest {
             Checks.same("stamp", notebook.stamp(name), 0);
             Checks.illegalState("value", notebook, () -> notebook.value(unset));
         }
-        runAnew(notebook, 0, "a=b+1");
+        Notebooks.runAnew(notebook, 0, "a=b+1");
         Checks.same("a run that reads a name that was set", notebook.hasResult(0), false);
     }
 
     private static void lastRunsStay() {
         Checks.sentence("Terms", "last runs stay");
         CellNotebook notebook = withAllNamesSet();
-        runAnew(notebook, 1, "b=a+a");
+        Notebooks.runAnew(notebook, 1, "b=a+a");
         notebook.end();
         Checks.same("last run", notebook.lastRun(0), 1);
         Checks.same("last run of the other", notebook.lastRun(1), 3);

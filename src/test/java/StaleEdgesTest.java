@@ -32,9 +32,8 @@ final class StaleEdgesTest {
 
     /** Cells that were run, each with one of the programs. */
     private static CellNotebook withRuns(String... programs) {
-        CellNotebook notebook = Notebooks.withCells(programs.length);
+        CellNotebook notebook = Notebooks.withPrograms(programs);
         for (int cell = 0; cell < programs.length; cell++) {
-            Notebooks.program(notebook, cell, programs[cell]);
             notebook.run(0, cell);
         }
         return notebook;
@@ -42,11 +41,6 @@ final class StaleEdgesTest {
 
     private static void edit(CellNotebook notebook, int cell) {
         Notebooks.program(notebook, cell, "h=0+0");
-    }
-
-    private static void runAnew(CellNotebook notebook, int cell, String program) {
-        Notebooks.programAnew(notebook, cell, program);
-        notebook.run(0, cell);
     }
 
     private static void editedIfAStatementIsWritten() {
@@ -93,10 +87,18 @@ final class StaleEdgesTest {
         Checks.same("a later run of its own", notebook.why(0), 0);
         notebook.restore(0);
         Checks.same("the earlier run restored", notebook.why(0), EDITED);
-        runAnew(notebook, 0, "a=1/0");
+        Notebooks.runAnew(notebook, 0, "a=1/0");
         Checks.same("a later run that failed", notebook.why(0), 0);
         edit(notebook, 0);
         Checks.same("changed behind a run that failed", notebook.why(0), EDITED);
+        notebook.run(0, 0);
+        notebook.forget(0);
+        edit(notebook, 0);
+        Checks.same("written when the runs ahead were forgotten", notebook.why(0), EDITED);
+        notebook.run(0, 0);
+        notebook.forget(0);
+        notebook.clear(0, 0);
+        Checks.same("cleared when the runs ahead were forgotten", notebook.why(0), EDITED);
     }
 
     private static void changedIfTheStampIsAnother() {
@@ -106,7 +108,7 @@ final class StaleEdgesTest {
         notebook.end();
         Checks.same("unset as when seen", notebook.why(0), 0);
         notebook.run(0, 1);
-        runAnew(notebook, 0, "a=h+1");
+        Notebooks.runAnew(notebook, 0, "a=h+1");
         Checks.same("set as when seen", notebook.why(0), 0);
         notebook.keep();
         notebook.end();
@@ -115,11 +117,11 @@ final class StaleEdgesTest {
         Checks.same("the same value, set by another run", notebook.why(0) & CHANGED, CHANGED);
         notebook.restore(0);
         Checks.same("the stamp as when seen, restored", notebook.why(0), 0);
-        runAnew(notebook, 1, "h=1/0");
+        Notebooks.runAnew(notebook, 1, "h=1/0");
         Checks.same("a run that failed leaves the stamp", notebook.why(0) & CHANGED, 0);
-        runAnew(notebook, 0, "a=h+1;h=a+1");
+        Notebooks.runAnew(notebook, 0, "a=h+1;h=a+1");
         Checks.same("the cell's own run", notebook.why(0) & CHANGED, CHANGED);
-        runAnew(notebook, 0, "h=1+1;a=h+1");
+        Notebooks.runAnew(notebook, 0, "h=1+1;a=h+1");
         notebook.run(0, 1);
         Checks.same("a name read but not seen", notebook.why(0) & CHANGED, 0);
     }
@@ -127,7 +129,7 @@ final class StaleEdgesTest {
     private static void restingOnARunOfAnotherCell() {
         Checks.sentence("Terms", "RESTING, if a name was seen by its last run with the stamp of a run of another cell");
         CellNotebook notebook = withRuns("a=1+1");
-        runAnew(notebook, 0, "b=a+1");
+        Notebooks.runAnew(notebook, 0, "b=a+1");
         Checks.same("an earlier run of its own, that is not its last one", notebook.why(0), 0);
         edit(notebook, 0);
         Checks.same("an earlier run of its own, when it is stale", notebook.why(0), EDITED);
@@ -138,6 +140,14 @@ final class StaleEdgesTest {
         Checks.same("two cells, none of them stale", other.why(2), 0);
         edit(other, 1);
         Checks.same("the second of two", other.why(2), RESTING);
+        other.run(0, 1);
+        other.run(0, 2);
+        other.forget(0);
+        Checks.same("none of them stale, the runs ahead forgotten", other.stale(), 0);
+        other.run(0, 1);
+        other.forget(0);
+        Checks.same("the run it was set by forgotten", other.why(2), CHANGED | RESTING);
+        Checks.same("stale", other.stale(), 1 << 2);
     }
 
     private static void restingWhateverTheStampIsNow() {
@@ -172,9 +182,9 @@ final class StaleEdgesTest {
         Checks.sentence("Terms", "or that run is not its last one now");
         CellNotebook notebook = withRuns("a=1+1", "b=a+1");
         notebook.keep();
-        runAnew(notebook, 0, "h=1+1");
+        Notebooks.runAnew(notebook, 0, "h=1+1");
         Checks.same("a later run", notebook.why(1), RESTING);
-        runAnew(notebook, 0, "a=1/0");
+        Notebooks.runAnew(notebook, 0, "a=1/0");
         Checks.same("a later run that failed", notebook.why(1), RESTING);
         notebook.restore(0);
         Checks.same("restored, but edited since", notebook.why(1), RESTING);
@@ -242,9 +252,9 @@ final class StaleEdgesTest {
         Checks.same("without a last run", notebook.why(15), 0);
         notebook.run(0, 15);
         Checks.same("an empty program", notebook.why(15), 0);
-        runAnew(notebook, 15, "a=b+1");
+        Notebooks.runAnew(notebook, 15, "a=b+1");
         Checks.same("a run that failed", notebook.why(15), 0);
-        runAnew(notebook, 15, "a=1+1");
+        Notebooks.runAnew(notebook, 15, "a=1+1");
         Checks.same("a run", notebook.why(15), 0);
         notebook.move(15, 0);
         notebook.grant(1, 15, CellNotebook.EDIT);
@@ -320,7 +330,7 @@ final class StaleEdgesTest {
         String before = Notebooks.allAnswers(notebook);
         notebook.wouldBeStale(Notebooks.A);
         Checks.same("nothing is set", Notebooks.allAnswers(notebook), before);
-        runAnew(notebook, 0, "b=a+1");
+        Notebooks.runAnew(notebook, 0, "b=a+1");
         Checks.same("seen from its own earlier run", notebook.wouldBeStale(Notebooks.A) & 1, 1);
         CellNotebook full = withRuns("a=1+1", "b=a+1");
         for (int run = 2; run < 400; run++) {

@@ -301,7 +301,10 @@ final class TermsEdgesTest {
         }
     }
 
-    /** 16 cells, some stale, some run by guests; 10 images; names that are unset; runs that were forgotten. */
+    /**
+     * 16 cells, some stale, some not (12, with a statement; 14, with 6; 15, empty), some run by guests; 10 images;
+     * names that are unset; runs that were forgotten.
+     */
     private static CellNotebook withAllKindsOfState() {
         CellNotebook notebook = CallsBy.busyNotebook();
         for (int image = 0; image < 10; image++) {
@@ -320,6 +323,9 @@ final class TermsEdgesTest {
         }
         notebook.clear(0, 15);
         notebook.run(0, 15);
+        notebook.run(0, 14);
+        notebook.end();
+        notebook.run(0, 0);
         return notebook;
     }
 
@@ -339,20 +345,21 @@ final class TermsEdgesTest {
 
     private static void makeCallsOutOfRange(CellNotebook notebook) {
         for (int number : CallsBy.beyond(0, 3)) {
-            Checks.illegalArgument("write", notebook, () -> notebook.write(0, 1, 0, number, 600, 600));
+            Checks.illegalArgument("write", notebook, () -> notebook.write(0, 12, 0, number, 600, 600));
             Checks.illegalArgument("grant", notebook, () -> notebook.grant(1, 0, number));
         }
         for (int number : CallsBy.beyond(0, 7)) {
-            Checks.illegalArgument("write", notebook, () -> notebook.write(0, 1, 0, PLUS, number, 600));
-            Checks.illegalArgument("write", notebook, () -> notebook.write(0, 1, 0, PLUS, 600, number));
+            Checks.illegalArgument("write", notebook, () -> notebook.write(0, 12, 0, PLUS, number, 600));
+            Checks.illegalArgument("write", notebook, () -> notebook.write(0, 12, 0, PLUS, 600, number));
         }
     }
 
     private static void makeCallsAgainstTheState(CellNotebook notebook) {
         Checks.illegalState("addCell", notebook, () -> notebook.addCell());
-        Checks.illegalState("write without a right", notebook, () -> notebook.write(1, 1, 0, PLUS, 600, 600));
+        Checks.same("cells that are not stale", notebook.stale() & (1 << 12 | 1 << 14 | 1 << 15), 0);
+        Checks.illegalState("write without a right", notebook, () -> notebook.write(1, 12, 0, PLUS, 600, 600));
         Checks.illegalState("write, full", notebook, () -> notebook.write(0, 14, 0, PLUS, 600, 600));
-        Checks.illegalState("clear without a right", notebook, () -> notebook.clear(1, 1));
+        Checks.illegalState("clear without a right", notebook, () -> notebook.clear(1, 12));
         Checks.illegalState("run without a right", notebook, () -> notebook.run(1, 1));
         Checks.illegalState("value, unset", notebook, () -> notebook.value(Notebooks.H));
         Checks.illegalState("result without a right", notebook, () -> notebook.result(1, 1));
