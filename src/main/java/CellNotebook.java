@@ -534,7 +534,7 @@ public final class CellNotebook {
         }
     }
 
-    /** The values and stamps of all names; a name is unset if its stamp is 0. */
+    /** The values and stamps of all names; a name is unset if its stamp is 0, and has the value 0 then. */
     private static final class Names {
         private final int[] values = new int[NAMES];
         private final int[] stamps = new int[NAMES];

@@ -7,15 +7,21 @@ import java.util.TreeSet;
 
 /** The public face: its constants, constructor and methods, and no other member that is not private. */
 final class FaceTest {
+    private static final String BOUNDS = " IndexOutOfBoundsException";
+    private static final String ARGUMENT = " IllegalArgumentException";
+    private static final String STATE = " IllegalStateException";
     private static final String[] METHODS = {
-        "int addCell()", "int write(int int int int int int)", "int clear(int int)", "int move(int int)",
-        "int cellCount()", "int cellAt(int)", "int source(int)", "char sourceChar(int int)",
-        "int grant(int int int)", "int right(int int)", "boolean run(int int)", "int refresh(int)",
-        "boolean isSet(int)", "int value(int)", "int stamp(int)", "int lastRun(int)", "boolean hasResult(int)",
-        "int result(int int)", "int seen(int)", "int timesSeen(int)", "int why(int)", "int stale()",
-        "int wouldBeStale(int)", "int keep()", "int restore(int)", "int end()", "boolean isSetInOrder(int)",
-        "int valueInOrder(int)", "int unlikeInOrder()", "int runs()", "int logged()", "int logAt(int)",
-        "int forget(int)"
+        "int addCell()" + STATE, "int write(int int int int int int)" + BOUNDS + ARGUMENT + STATE,
+        "int clear(int int)" + BOUNDS + STATE, "int move(int int)" + BOUNDS, "int cellCount()",
+        "int cellAt(int)" + BOUNDS, "int source(int)" + BOUNDS, "char sourceChar(int int)" + BOUNDS,
+        "int grant(int int int)" + BOUNDS + ARGUMENT, "int right(int int)" + BOUNDS,
+        "boolean run(int int)" + BOUNDS + STATE, "int refresh(int)" + BOUNDS + STATE, "boolean isSet(int)" + BOUNDS,
+        "int value(int)" + BOUNDS + STATE, "int stamp(int)" + BOUNDS, "int lastRun(int)" + BOUNDS,
+        "boolean hasResult(int)" + BOUNDS, "int result(int int)" + BOUNDS + STATE, "int seen(int)" + BOUNDS,
+        "int timesSeen(int)" + BOUNDS, "int why(int)" + BOUNDS, "int stale()", "int wouldBeStale(int)" + BOUNDS,
+        "int keep()" + STATE, "int restore(int)" + BOUNDS, "int end()", "boolean isSetInOrder(int)" + BOUNDS,
+        "int valueInOrder(int)" + BOUNDS + STATE, "int unlikeInOrder()", "int runs()", "int logged()",
+        "int logAt(int)" + BOUNDS, "int forget(int)" + BOUNDS
     };
     private static final String[] CONSTANTS = {
         "PLUS 0", "MINUS 1", "TIMES 2", "OVER 3", "NOTHING 0", "SEE 1", "RUN 2", "EDIT 3",
@@ -44,6 +50,7 @@ final class FaceTest {
             if (Modifier.isPrivate(method.getModifiers())) {
                 hidden.add(method.getName());
             } else if (!method.isSynthetic()) {
+                Checks.same(method.getName() + " is public and no more", method.getModifiers(), Modifier.PUBLIC);
                 face.add(described(method));
                 names.add(method.getName());
             }
@@ -59,7 +66,11 @@ final class FaceTest {
         for (Class<?> parameter : method.getParameterTypes()) {
             text.append(text.charAt(text.length() - 1) == '(' ? "" : " ").append(parameter.getName());
         }
-        return text.append(')').toString();
+        text.append(')');
+        for (Class<?> thrown : method.getExceptionTypes()) {
+            text.append(' ').append(thrown.getSimpleName());
+        }
+        return text.toString();
     }
 
     private static void constantsAreThoseOfTheDocument() throws IllegalAccessException {
